@@ -675,6 +675,9 @@ public final class PermitRoom {
         }
 
         int leastSetFor(int place, int doubled) {
+            if (isSafe(place, 0, allPipes(), doubled)) {
+                return 0;
+            }
             if (!isSafe(place, allFittings(), allPipes(), doubled)) {
                 return NONE;
             }
@@ -694,29 +697,26 @@ public final class PermitRoom {
         }
 
         /**
-         * The better one of best and the least set that has, of the fittings below next, just the chosen ones.
-         * More closed is never less safe: so a set that is safe needs no other fitting, and what isn't safe
-         * with all that are left needs no look.
+         * The better one of best and the least set that has the chosen fittings, which aren't enough, and else
+         * only such from next on. More closed is never less safe: so a set that is safe needs no other fitting,
+         * and what isn't safe with all that are left needs no look.
          */
         private static int leastSetFrom(Net net, int place, int doubled, int chosen, int next, int best) {
-            int hoursToSpare = net.hoursOf(best) - net.hoursOf(chosen);
-            if (hoursToSpare < 0) {
-                return best;
-            }
-            if (net.isSafe(place, chosen, net.allPipes(), doubled)) {
-                return net.isBetter(chosen, best) ? chosen : best;
-            }
-            if (hoursToSpare == 0 || next >= net.count) {
-                return best;
-            }
             int better = best;
-            int bit = 1 << next;
-            if ((net.allFittings() & bit) != 0) {
-                better = leastSetFrom(net, place, doubled, chosen | bit, next + 1, better);
-            }
-            int chosenAndLeft = chosen | net.allFittings() & -(bit << 1);
-            if (net.isSafe(place, chosenAndLeft, net.allPipes(), doubled)) {
-                better = leastSetFrom(net, place, doubled, chosen, next + 1, better);
+            for (int i = next; i < net.count && net.hoursOf(chosen) < net.hoursOf(better); i++) {
+                int more = chosen | 1 << i & net.allFittings();
+                int hoursToSpare = net.hoursOf(better) - net.hoursOf(more);
+                if (more != chosen && hoursToSpare >= 0) {
+                    if (net.isSafe(place, more, net.allPipes(), doubled)) {
+                        better = net.isBetter(more, better) ? more : better;
+                    } else if (hoursToSpare > 0) {
+                        better = leastSetFrom(net, place, doubled, more, i + 1, better);
+                    }
+                }
+                int left = net.allFittings() & -2 << i;
+                if (!net.isSafe(place, chosen | left, net.allPipes(), doubled)) {
+                    break;
+                }
             }
             return better;
         }

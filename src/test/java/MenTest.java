@@ -80,6 +80,10 @@ public final class MenTest {
         DUE.is("siren: he is out", room.leave(2), PermitRoom.STATE);
         room.go(1);
         DUE.is("siren: again", room.siren(), 0);
+        room.start(0);
+        room.enter(0, 0);
+        DUE.is("siren: the first man too", room.siren(), 1);
+        DUE.is("siren: he came out", room.many(6), 0);
         DUE.is("siren: live till then", room.permitOf(1, 8), 9);
     }
 }

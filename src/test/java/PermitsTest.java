@@ -227,6 +227,8 @@ public final class PermitsTest {
         DUE.is("quarrels: the other way round", room.quarrels(vessel), hot);
         DUE.is("quarrels: not with itself", room.quarrels(hot), PermitRoom.NONE);
         DUE.is("quarrels: another sort", room.quarrels(cold), PermitRoom.NONE);
+        int alike = room.ask(0, 1, 0);
+        DUE.is("quarrels: the same sort isn't barred", room.quarrels(alike), PermitRoom.NONE);
         DUE.is("start: a quarrel", room.start(vessel), PermitRoom.BAR - 4);
         DUE.is("start: no quarrel", room.start(cold), 1);
         room.hang(hot);
@@ -238,7 +240,7 @@ public final class PermitsTest {
         Due.rule(room, "bar hot cold within 9");
         Due.rule(room, "bar hot vessel within 9");
         DUE.is("quarrels: the least of two", room.quarrels(hot), vessel);
-        DUE.is("quarrels: none such", room.quarrels(3), PermitRoom.NUMBER);
+        DUE.is("quarrels: none such", room.quarrels(4), PermitRoom.NUMBER);
         DUE.is("quarrels: below", room.quarrels(-1), PermitRoom.NUMBER);
         int asked = room.ask(1, 1, 0);
         DUE.is("quarrels: of one that is only asked", room.quarrels(asked), vessel);
@@ -319,6 +321,7 @@ public final class PermitsTest {
         DUE.is("enter: the third", room.enter(3, 0), PermitRoom.BAR - 7);
         room.strike(1);
         DUE.is("enter: the third may now", room.enter(3, 0), 3);
+        DUE.is("enter: the fourth", room.enter(4, 0), PermitRoom.BAR - 7);
         Due.rule(room, "men cold 1");
         DUE.is("may: more are inside than may be", room.may(0, 5), 7);
         room.leave(1);

@@ -756,7 +756,7 @@ public final class PermitRoom {
         int fault = NONE;
 
         void takeBytes(long w, int n) {
-            for (int i = 0; i < n; i++) {
+            for (int i = 0; i < n && length < TAPE_BYTES; i++) {
                 bytes[length] = (int) (w >>> 8 * i & 255);
                 length++;
             }

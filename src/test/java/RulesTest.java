@@ -59,6 +59,12 @@ public final class RulesTest {
         fault("    ", 4);
         fault("needs hot test 1", 0);
         fault("nee", 0);
+        fault("needa hot test 1", 0);
+        fault("needz hot test 1", 0);
+        fault("need` hot test 1", 4);
+        fault("need{ hot test 1", 4);
+        fault("need hot test 1/", 15);
+        fault("need hot test 1:", 15);
         fault("need", 4);
         fault("need ", 5);
         fault("needhot test 1", 0);

@@ -10,6 +10,7 @@ public final class SetsTest {
         noSet();
         leaks();
         rightAsKnown();
+        rightBeforeAnyPipe();
         rightByRules();
         rightByHistory();
         DUE.end();
@@ -136,6 +137,20 @@ public final class SetsTest {
         DUE.is("right: hour below", room.right(permit, -1, 0), PermitRoom.NUMBER);
         DUE.is("right: known above", room.right(permit, 0, 4), PermitRoom.NUMBER);
         DUE.is("right: known below", room.right(permit, 0, -1), PermitRoom.NUMBER);
+    }
+
+    private static void rightBeforeAnyPipe() {
+        PermitRoom room = new PermitRoom();
+        room.source(0, 0, true);
+        int permit = Due.live(room, 1, 0, 0, 0);
+        room.go(1);
+        room.pipe(0, 1, 0);
+        room.go(1);
+        room.pipe(0, 1, 0);
+        int[] due = {1, 0, 0};
+        for (int known = 0; known < due.length; known++) {
+            DUE.is("right: as known at hour " + known, room.right(permit, 0, known), due[known]);
+        }
     }
 
     private static void rightByRules() {

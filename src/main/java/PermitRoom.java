@@ -854,11 +854,11 @@ public final class PermitRoom {
             }
             from = at;
             if (isLetter(at)) {
-                while (isLetter(at)) {
+                while (at < length && isLetter(at)) {
                     at++;
                 }
             } else if (isDigit(at)) {
-                while (isDigit(at)) {
+                while (at < length && isDigit(at)) {
                     at++;
                 }
             } else if (at < length) {

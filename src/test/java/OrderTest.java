@@ -16,14 +16,6 @@ public final class OrderTest {
         DUE.end();
     }
 
-    private static PermitRoom roomOfValves(int count) {
-        PermitRoom room = new PermitRoom();
-        for (int i = 0; i < count; i++) {
-            room.pipe(i % 9, i % 9 + 1, 0);
-        }
-        return room;
-    }
-
     private static void orderIs(PermitRoom room, int moves, int... permits) {
         DUE.is("order()", room.order(), moves);
         for (int i = 0; i < permits.length; i++) {
@@ -43,7 +35,7 @@ public final class OrderTest {
     }
 
     private static void fewestMoves() {
-        PermitRoom room = roomOfValves(6);
+        PermitRoom room = Due.roomOfValves(6);
         room.ask(0, 0, 0b000011);
         room.ask(0, 0, 0b110000);
         room.ask(0, 0, 0b000110);
@@ -57,12 +49,12 @@ public final class OrderTest {
     }
 
     private static void lesserPermitFirst() {
-        PermitRoom room = roomOfValves(3);
+        PermitRoom room = Due.roomOfValves(3);
         room.ask(0, 0, 1);
         room.ask(0, 0, 2);
         room.ask(0, 0, 4);
         orderIs(room, 6, 0, 1, 2);
-        PermitRoom other = roomOfValves(3);
+        PermitRoom other = Due.roomOfValves(3);
         other.ask(0, 0, 3);
         other.ask(0, 0, 5);
         other.ask(0, 0, 1);
@@ -70,7 +62,7 @@ public final class OrderTest {
     }
 
     private static void onlyThoseThatAreAsked() {
-        PermitRoom room = roomOfValves(4);
+        PermitRoom room = Due.roomOfValves(4);
         room.ask(0, 0, 3);
         room.ask(0, 0, 6);
         room.ask(0, 0, 12);
@@ -84,7 +76,7 @@ public final class OrderTest {
     }
 
     private static void rows() {
-        PermitRoom room = roomOfValves(3);
+        PermitRoom room = Due.roomOfValves(3);
         room.ask(0, 0, 1);
         room.ask(0, 0, 6);
         room.ask(0, 0, 3);
@@ -103,7 +95,7 @@ public final class OrderTest {
     }
 
     private static void altering() {
-        PermitRoom room = roomOfValves(2);
+        PermitRoom room = Due.roomOfValves(2);
         room.ask(0, 0, 1);
         room.ask(0, 0, 2);
         room.order();
@@ -128,7 +120,7 @@ public final class OrderTest {
     }
 
     private static void dropping() {
-        PermitRoom room = roomOfValves(2);
+        PermitRoom room = Due.roomOfValves(2);
         room.ask(0, 0, 1);
         room.ask(0, 0, 2);
         room.order();
@@ -146,7 +138,7 @@ public final class OrderTest {
     }
 
     private static void proofAsItWasTold() {
-        PermitRoom room = roomOfValves(3);
+        PermitRoom room = Due.roomOfValves(3);
         room.ask(0, 0, 1);
         room.ask(0, 0, 2);
         room.order();
@@ -159,7 +151,7 @@ public final class OrderTest {
     }
 
     private static void sevenPermits() {
-        PermitRoom room = roomOfValves(12);
+        PermitRoom room = Due.roomOfValves(12);
         int[] sets = {0x041, 0xFC0, 0x003, 0x800, 0x00C, 0xC00, 0x030};
         for (int set : sets) {
             room.ask(0, 0, set);
@@ -172,7 +164,7 @@ public final class OrderTest {
     }
 
     private static void howMany() {
-        PermitRoom room = roomOfValves(3);
+        PermitRoom room = Due.roomOfValves(3);
         Due.rule(room, "men hot 8");
         Due.rule(room, "double gas");
         Due.feed(room, "bar");

@@ -125,14 +125,14 @@ public final class PermitsTest {
     private static void statesOfActs() {
         String[] goes = {"0", "1234", "124", "3", "124", "3"};
         for (int state = 0; state < 6; state++) {
-            PermitRoom room = inState(state);
+            PermitRoom room = Due.inState(state);
             DUE.is("state", room.permitOf(0, 3), state);
             for (int act = 0; act < 6; act++) {
                 int due = goes[act].indexOf('0' + state) >= 0 ? 0 : 1;
                 DUE.is("may(0, " + act + ") in state " + state, room.may(0, act), due);
             }
         }
-        PermitRoom room = inState(0);
+        PermitRoom room = Due.inState(0);
         DUE.is("may: no permit", room.may(1, 0), PermitRoom.NUMBER);
         DUE.is("may: no permit below", room.may(-1, 0), PermitRoom.NUMBER);
         DUE.is("may: no act", room.may(0, 6), PermitRoom.NUMBER);
@@ -146,28 +146,6 @@ public final class PermitsTest {
         DUE.is("hang: asked", room.hang(0), PermitRoom.BAR - 1);
         DUE.is("back: asked", room.back(0), PermitRoom.BAR - 1);
         DUE.is("enter: asked", room.enter(0, 0), PermitRoom.BAR - 1);
-    }
-
-    private static PermitRoom inState(int state) {
-        PermitRoom room = new PermitRoom();
-        room.ask(0, 0, 0);
-        room.hold(0, 0);
-        if (state >= 1) {
-            room.isolate(0);
-        }
-        if (state == 2) {
-            room.test(0, 0);
-        }
-        if (state == 3 || state == 4) {
-            room.start(0);
-        }
-        if (state == 4) {
-            room.hang(0);
-        }
-        if (state == 5) {
-            room.back(0);
-        }
-        return room;
     }
 
     private static void safeBar() {

@@ -59,6 +59,12 @@ public final class TermFourTest {
         room.pipe(1, 2, 0);
         room.pipe(1, 2, 0);
         leastIs(room, 2, 3, 1);
+        PermitRoom other = new PermitRoom();
+        other.source(0, 0, true);
+        other.pipe(0, 2, 0);
+        other.pipe(0, 1, 1);
+        other.pipe(1, 2, 0);
+        leastIs(other, 2, 2, 0b101);
     }
 
     private static void fewerFittings() {
@@ -139,6 +145,12 @@ public final class TermFourTest {
             Due.live(room, 1, 0, 1, 0);
         }
         DUE.is("risk: all seven", room.risk(0), 127);
+        PermitRoom far = Due.roomOfValves(12);
+        far.source(2, 2, true);
+        Due.live(far, 3, 0, 0b100000001100, 0);
+        for (int pipe = 0; pipe < 12; pipe++) {
+            DUE.is("risk: of valve " + pipe, far.risk(pipe), pipe == 2 || pipe == 11 ? 1 : 0);
+        }
     }
 
     private static void right() {
@@ -155,6 +167,10 @@ public final class TermFourTest {
         int[] due = {2, 1, 2, 2};
         for (int hour = 0; hour < due.length; hour++) {
             DUE.is("right: at hour " + hour, room.right(permit, hour, 3), due[hour]);
+        }
+        for (int w = 1; w < 7; w++) {
+            Due.live(room, 1, 0, 1, 0);
+            DUE.is("right: permit " + w, room.right(w, 3, 3), 1);
         }
         DUE.says("by RULES in force at h");
         Due.rule(room, "double gas");

@@ -17,6 +17,9 @@ public final class LanguageTest {
         Pattern.compile("( {4}| {8})(?:(?:public|private|static) )*(?:int|boolean|void) (\\w+)\\(.*\\) \\{");
     private static final Pattern MADE_WITH_OBJECT =
         Pattern.compile(" +(?:private )?(?:static )?final \\w+(?:\\[\\])? \\w+ = new .*;");
+    private static final Pattern COUNTED =
+        Pattern.compile(" +for \\(int (\\w+) = [^;]+; \\1 (<|<=|>=) [^;]+; \\1(\\+\\+|--)\\) \\{");
+    private static final Pattern BOUNDED = Pattern.compile(" +while \\(at < length && .*\\) \\{");
 
     /** Bodies by names: methods of several classes that have one name count as one, so depths are rather too great. */
     private final Map<String, String> bodies = new HashMap<>();
@@ -48,11 +51,9 @@ public final class LanguageTest {
             if (!isComment && line.contains("new ") && !MADE_WITH_OBJECT.matcher(line).matches()) {
                 faults.add("rule 12: made elsewhere than with the object, line " + (i + 1));
             }
-            if (line.contains("while (") && !line.contains(" < length &&")) {
+            boolean isLoop = line.contains("while (") || line.contains("for (");
+            if (isLoop && !COUNTED.matcher(line).matches() && !BOUNDED.matcher(line).matches()) {
                 faults.add("rule 9: a loop whose end isn't seen, line " + (i + 1));
-            }
-            if (line.contains("for (") && !line.matches(".*for \\(int \\w+ = [^;]+; \\w+ (<|<=|>=) [^;]+; \\w+(\\+\\+|--)\\) \\{")) {
-                faults.add("rule 9: a loop without a counter, line " + (i + 1));
             }
         }
     }

@@ -65,13 +65,13 @@ public final class ReadmeTest {
         return word.startsWith("0b") ? Integer.parseInt(word.substring(2), 2) : Integer.parseInt(word);
     }
 
-    private void showsAll(String text) throws ReflectiveOperationException {
+    private void showsAll(String text) {
         for (Method method : PermitRoom.class.getDeclaredMethods()) {
             boolean isDue = Modifier.isPublic(method.getModifiers());
             DUE.is("a call is shown: " + method.getName(), !isDue || shown.contains(method.getName()) ? 1 : 0, 1);
         }
         for (Field field : PermitRoom.class.getFields()) {
-            String begin = "| `" + field.getName() + "` | " + (field.getInt(null) > -10 ? field.getInt(null) + " |" : "");
+            String begin = "| `" + field.getName() + "` | -";
             DUE.is("a constant is told: " + begin, text.contains(begin) ? 1 : 0, 1);
         }
     }

@@ -15,10 +15,11 @@ public final class ReadmeTest {
     private static final Due DUE = new Due();
     private static final String NEW_ROOM = "PermitRoom room = new PermitRoom();";
     private static final String FEEDING = "room.feed(text.charAt(i), 1);";
+    private static final String READING = "return room.rule();";
     private static final Pattern CALL = Pattern.compile("room\\.(\\w+)\\((.*)\\); *// (-?\\d+)(:.*)?");
     private static final Pattern TELL = Pattern.compile("tell\\(room, \"(.*)\"\\); *// (-?\\d+)(:.*)?");
 
-    private final Set<String> shown = new TreeSet<>(Set.of("feed", "rule"));
+    private final Set<String> shown = new TreeSet<>();
     private PermitRoom room = new PermitRoom();
 
     public static void main(String[] args) throws ReflectiveOperationException, IOException {
@@ -41,7 +42,11 @@ public final class ReadmeTest {
             DUE.is(line, answer(call.group(1), call.group(2)), Integer.parseInt(call.group(3)));
         } else if (tell.matches()) {
             DUE.is(line, Due.rule(room, tell.group(1)), Integer.parseInt(tell.group(2)));
-        } else if (line.startsWith("tell(") || line.startsWith("room.") && !line.equals(FEEDING)) {
+        } else if (line.equals(FEEDING)) {
+            shown.add("feed");
+        } else if (line.equals(READING)) {
+            shown.add("rule");
+        } else if (line.startsWith("tell(") || line.startsWith("room.")) {
             DUE.is("a call without an answer: " + line, 1, 0);
         }
     }
